@@ -763,7 +763,7 @@ public final class UnbornBells {
             days = 0;
         }
 
-        void copyFrom(Bell other) {
+        void become(Bell other) {
             begin(other.tower, other.pitch, other.weight, other.hope);
             cracked = other.cracked;
             muffled = other.muffled;
@@ -819,7 +819,7 @@ public final class UnbornBells {
             }
         }
 
-        void copyFrom(Table other) {
+        void become(Table other) {
             System.arraycopy(other.cells, 0, cells, 0, Math.min(cells.length, other.cells.length));
             lines = other.lines;
         }
@@ -840,8 +840,8 @@ public final class UnbornBells {
         final Table turns = new Table(3, MOST_TURNS);
         final int[] hourMasks = new int[MOST_BELLS];
         int hourLines;
-        Law sound = new Law();
-        Law coming = new Law();
+        Law sound = Law.withoutLines();
+        Law coming = Law.withoutLines();
 
         Parish() {
             for (int i = 0; i < MOST_BELLS; i++) {
@@ -851,7 +851,7 @@ public final class UnbornBells {
 
         void copyFrom(Parish other) {
             for (int i = 0; i < MOST_BELLS; i++) {
-                bells[i].copyFrom(other.bells[i]);
+                bells[i].become(other.bells[i]);
             }
             count = other.count;
             System.arraycopy(other.distances, 0, distances, 0, TOWERS * TOWERS);
@@ -860,9 +860,9 @@ public final class UnbornBells {
             cold = other.cold;
             day = other.day;
             state = other.state;
-            children.copyFrom(other.children);
-            book.copyFrom(other.book);
-            turns.copyFrom(other.turns);
+            children.become(other.children);
+            book.become(other.book);
+            turns.become(other.turns);
             System.arraycopy(other.hourMasks, 0, hourMasks, 0, MOST_BELLS);
             hourLines = other.hourLines;
             sound = other.sound;
@@ -948,10 +948,6 @@ public final class UnbornBells {
         private final int[] numbers;
         private final int[] stack = new int[DEEPEST];
 
-        Law() {
-            this(0, new int[0], new int[1], new int[0], new int[0], new int[0]);
-        }
-
         /** The code of line i goes from starts[i] to whens[i], that of its condition from there to starts[i + 1]. */
         Law(int lines, int[] words, int[] starts, int[] whens, int[] codes, int[] numbers) {
             this.lines = lines;
@@ -961,6 +957,11 @@ public final class UnbornBells {
             int used = this.starts[lines];
             this.codes = Arrays.copyOf(codes, used);
             this.numbers = Arrays.copyOf(numbers, used);
+        }
+
+        static Law withoutLines() {
+            int[] nothing = new int[1];
+            return new Law(0, nothing, nothing, nothing, nothing, nothing);
         }
 
         /** What the first line with that word answers whose condition holds; without one: otherwise. */
@@ -1033,20 +1034,14 @@ public final class UnbornBells {
 
         void read(int[] tape, int length) {
             int count = 0;
-            int at = 0;
-            while (at < length) {
-                if (tape[at] == ' ' || tape[at] == '\n') {
-                    at++;
-                } else {
+            for (int at = 0; at < length; at++) {
+                boolean isBlank = tape[at] == ' ' || tape[at] == '\n';
+                if (!isBlank && !goesOn(tape, at)) {
                     int behind = behindToken(tape, at, length);
                     places[count] = at;
-                    values[count] = 0;
                     kinds[count] = kindOf(tape, at, behind);
-                    if (kinds[count] == NUMBER) {
-                        values[count] = numberOf(tape, at, behind);
-                    }
+                    values[count] = kinds[count] == NUMBER ? numberOf(tape, at, behind) : 0;
                     count++;
-                    at = behind;
                 }
             }
             kinds[count] = END_OF_TEXT;
@@ -1054,18 +1049,21 @@ public final class UnbornBells {
             values[count] = 0;
         }
 
-        private static int behindToken(int[] tape, int from, int length) {
-            int at = from + 1;
-            if (isLetter(tape[from])) {
-                while (at < length && isLetter(tape[at])) {
-                    at++;
-                }
-            } else if (isDigit(tape[from])) {
-                while (at < length && isDigit(tape[at])) {
-                    at++;
-                }
+        /** Whether a letter or a digit belongs to the token ahead of it. */
+        private static boolean goesOn(int[] tape, int at) {
+            if (at == 0) {
+                return false;
             }
-            return at;
+            boolean inWord = isLetter(tape[at - 1]) && isLetter(tape[at]);
+            return inWord || isDigit(tape[at - 1]) && isDigit(tape[at]);
+        }
+
+        private static int behindToken(int[] tape, int from, int length) {
+            int behind = from + 1;
+            while (behind < length && goesOn(tape, behind)) {
+                behind++;
+            }
+            return behind;
         }
 
         private static int kindOf(int[] tape, int from, int behind) {
@@ -1147,7 +1145,7 @@ public final class UnbornBells {
             begin(tape, length);
             Arrays.fill(hourMasks, 0);
             boolean well = true;
-            while (well && kind != END_OF_TEXT) {
+            for (int i = 0; i <= MOST_HOUR_LINES && well && kind != END_OF_TEXT; i++) {
                 well = readHourLine(bells);
             }
             return well;
@@ -1157,7 +1155,7 @@ public final class UnbornBells {
             begin(tape, length);
             ofSound = isOfSound;
             boolean well = true;
-            while (well && kind != END_OF_TEXT) {
+            for (int i = 0; i <= MOST_LAW_LINES && well && kind != END_OF_TEXT; i++) {
                 well = readLawLine();
             }
             return well;
@@ -1272,7 +1270,7 @@ public final class UnbornBells {
         private boolean readChoice(int open) {
             int waiting = 0;
             boolean well = readClaim(open);
-            while (well && (kind == AND || kind == OR)) {
+            for (int i = 0; i < MOST_BYTES && well && (kind == AND || kind == OR); i++) {
                 int word = kind;
                 step();
                 if (word == OR) {
@@ -1327,7 +1325,7 @@ public final class UnbornBells {
         private boolean readSum() {
             int waiting = 0;
             boolean well = readUnit();
-            while (well && (kind == '+' || kind == '-' || kind == '*' || kind == '/')) {
+            for (int i = 0; i < MOST_BYTES && well && isSignOfSums(kind); i++) {
                 int sign = kind;
                 step();
                 if (sign == '/') {
@@ -1345,6 +1343,10 @@ public final class UnbornBells {
             }
             emitWaiting(waiting);
             return well;
+        }
+
+        private static boolean isSignOfSums(int sign) {
+            return sign == '+' || sign == '-' || sign == '*' || sign == '/';
         }
 
         private void emitWaiting(int sign) {
@@ -1501,12 +1503,19 @@ public final class UnbornBells {
         private void bringChildren(int bell) {
             int hours = parish.soundsIn(bell);
             int clear = ear.clearHours(bell, parish.bells[bell].tower, hours);
-            int first = Integer.numberOfTrailingZeros(clear != 0 ? clear : hours);
-            bringChild(bell, ear.calledTo(bell, first));
+            bringChild(bell, ear.calledTo(bell, firstHour(clear != 0 ? clear : hours)));
             if (parish.bells[bell].cracked == 1) {
                 bringChild(bell, bell);
             }
             parish.bells[bell].how = HANGS;
+        }
+
+        private static int firstHour(int hours) {
+            int hour = 0;
+            while (hour < HOURS_OF_A_DAY - 1 && (hours >>> hour & 1) == 0) {
+                hour++;
+            }
+            return hour;
         }
 
         private void bringChild(int own, int came) {
@@ -1634,7 +1643,7 @@ public final class UnbornBells {
         /** How many siblings stand in a row from this pitch upwards. */
         int rowFrom(int pitch, int step) {
             int length = 0;
-            while (pitch + length * step <= TOP_PITCH && isPitchThere(pitch + length * step)) {
+            while (length <= TOP_PITCH && isPitchThere(pitch + length * step)) {
                 length++;
             }
             return length;
@@ -1777,7 +1786,7 @@ public final class UnbornBells {
         /** Gives each rung bell its hour and tells how many hours that takes. */
         int seatAll() {
             int most = 0;
-            while (!seatFrom(0, 0, most) && most < MOST_BELLS) {
+            while (!seatFrom(0, 0, most, parish, seats) && most < MOST_BELLS) {
                 most++;
             }
             return most;
@@ -1788,18 +1797,18 @@ public final class UnbornBells {
         }
 
         /** Seats a bell and all after it. An hour beyond the first unused one is only another name for that one. */
-        private boolean seatFrom(int bell, int used, int most) {
-            if (bell >= parish.count) {
+        private static boolean seatFrom(int bell, int used, int most, Parish parish, int[] seats) {
+            if (bell >= parish.count || bell >= seats.length) {
                 return true;
             }
             seats[bell] = NONE;
             if (!parish.isRung(bell)) {
-                return seatFrom(bell + 1, used, most);
+                return seatFrom(bell + 1, used, most, parish, seats);
             }
             for (int hour = 0; hour <= used && hour < most; hour++) {
-                if (canSit(bell, hour)) {
+                if (canSit(bell, hour, parish, seats)) {
                     seats[bell] = hour;
-                    if (seatFrom(bell + 1, Math.max(used, hour + 1), most)) {
+                    if (seatFrom(bell + 1, Math.max(used, hour + 1), most, parish, seats)) {
                         return true;
                     }
                 }
@@ -1807,7 +1816,7 @@ public final class UnbornBells {
             return false;
         }
 
-        private boolean canSit(int bell, int hour) {
+        private static boolean canSit(int bell, int hour, Parish parish, int[] seats) {
             for (int other = 0; other < bell; other++) {
                 if (seats[other] == hour && parish.areNear(bell, other)) {
                     return false;
