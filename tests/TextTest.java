@@ -331,6 +331,12 @@ public final class TextTest {
         when("0 - 7 * 1 = 0 - 7", true);
         when("1 + 0 * 5 = 1", true);
         when("9999 * 9999 * 22 / 7 = 0 - 2993 * 1000 * 100 - 43 * 1000 - 896", true);
+        StringBuilder deep = new StringBuilder();
+        for (int i = 0; i < 8; i++) {
+            deep.append("1=2 or 1=1 and (");
+        }
+        when(deep + "1=2 or 1=1 and 3=2+1*1" + "))))))))", true);
+        when(deep + "1=2 or 1=1 and 3=2+1*2" + "))))))))", false);
         loud("loud 1 when 1 = 2; loud 2 when 1 = 2;", 16);
         loud("loud 1 when 1 = 2; loud 3 when 1 = 1; loud 2;", 3);
         loud("loud 4; loud 3 when 1 = 1;", 4);
