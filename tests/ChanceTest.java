@@ -81,6 +81,7 @@ public final class ChanceTest {
         T.due("30 two days", x.louder(11, 5, 3, 7, 2, 1), 14);
         T.due("30 999 at most", x.louder(999, 0, 9, 999, 1, 0), 999);
         T.due("30 999 at most", x.louder(999, 999, 9, 0, 60, 1), 999);
+        T.due("30 999 at most", x.louder(999, 999, 9, 0, 60, 0), 999);
         T.due("30 rest at once", x.louder(0, 0, 5, 0, 0, 2), 1);
         T.due("30 rest of what is told", x.louder(7, 7, 0, 7, 0, 2), 1);
         T.due("30 rest on the second day", x.louder(7, 8, 0, 7, 0, 2), 2);

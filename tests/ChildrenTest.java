@@ -9,6 +9,8 @@ public final class ChildrenTest {
         rightThroughAnother();
         rightOfTwins();
         rightStuck();
+        rightFromTheLeast();
+        rightAnew();
         turns();
         fits();
         ask();
@@ -154,6 +156,64 @@ public final class ChildrenTest {
         // CAME 2 1 2, then 1 2 2: child 1 wants 1, which 0 has, and 0 wants 0, which none has.
         x.swap(0, 1);
         right(x, Checks.set(0, 1), 1, 2);
+    }
+
+    /** Swaps until the children came to these. */
+    private static void bring(UnbornBells x, int... came) {
+        for (int i = 0; i < came.length; i++) {
+            for (int j = i + 1; j < came.length && x.child(i, 1) != came[i]; j++) {
+                if (x.child(j, 1) == came[i]) {
+                    x.swap(i, j);
+                }
+            }
+            T.due("17 came of " + i, x.child(i, 1), came[i]);
+        }
+    }
+
+    private static UnbornBells withTwinsOfTheFirst(int n) {
+        UnbornBells x = new UnbornBells();
+        StringBuilder hours = new StringBuilder();
+        for (int i = 0; i < n; i++) {
+            x.bell(0, 4 * i, 50, 10);
+            hours.append("ring ").append(i).append(" at ").append(i).append(" for 1;");
+        }
+        x.set(4, 0, 1);
+        x.set(0, 0, 0);
+        Checks.tell(x, 0, hours.toString());
+        Checks.tell(x, 2, "come 1000;");
+        T.due("9 all come", x.days(1), n + 1);
+        return x;
+    }
+
+    private static void rightFromTheLeast() {
+        UnbornBells x = withTwinsOfTheFirst(4);
+        // OWN 0 0 1 2 3. From child 0 on: with 2, 1 with 3, 2 with 3, 3 with 4. From child 1 on it would be three.
+        bring(x, 3, 1, 0, 0, 2);
+        right(x, 31, 4, 5);
+    }
+
+    /** Each answer is of what is now, whatever was asked ahead of it. */
+    private static void rightAnew() {
+        UnbornBells x = withChildren(6);
+        T.due("24 right then", x.right(2), 6);
+        bring(x, 1, 2, 0, 3, 5, 4);
+        T.due("24 right then", x.right(2), 6);
+        T.due("24 swaps", x.right(1), 3);
+        T.due("24 swaps again", x.right(1), 3);
+        T.due("24 wrong", x.right(0), Checks.set(0, 1, 2, 4, 5));
+        bring(x, 0, 1, 2, 3, 5, 4);
+        T.due("24 swaps", x.right(1), 1);
+        T.due("24 wrong", x.right(0), Checks.set(4, 5));
+        x.undo();
+        T.due("24 wrong", x.right(0) == Checks.set(4, 5) ? 1 : 0, 0);
+        x = new UnbornBells();
+        x.bell(0, 0, 50, 10);
+        x.bell(0, 12, 60, 10);
+        x.set(0, 0, 0);
+        Checks.tell(x, 0, "ring 0 at 1 for 1; ring 1 at 1 for 1;");
+        Checks.tell(x, 2, "come 1000;");
+        x.days(1);
+        T.due("24 one is stuck", x.right(2), 1);
     }
 
     private static void turns() {

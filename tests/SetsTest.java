@@ -33,6 +33,7 @@ public final class SetsTest {
 
     private static void rows() {
         rows(new UnbornBells(), 1, 0);
+        T.due("21 m can't be, though none is needed", new UnbornBells().rows(0, 0), NONE);
         rows(ofPitches(2, 5), 1, 1, 0);
         rows(ofPitches(2, 5, 7), 1, 1, 0, 0);
         rows(ofPitches(3, 5, 7), 2, 2, 0, 1);

@@ -155,6 +155,10 @@ public final class SoundTest {
         T.due("16 no such bell", x.astray(-1, 1), NONE);
         x.melt(2);
         T.due("16 not one that is melted", x.astray(0, 3), 0);
+        T.due("16 led astray by the first", x.astray(3, 3), 3);
+        x.set(5, 3, 24);
+        Checks.tell(x, 1, "loud 200 when pitch = 0; loud weight;");
+        T.due("16 led astray by the first", x.astray(3, 3), 0);
     }
 
     private static void heard() {
@@ -242,6 +246,7 @@ public final class SoundTest {
         T.due("38 none is ever heard", x.chorus(0, 71, 0), NONE);
         T.due("38 none is ever heard", x.chorus(0, 71, 1), 0);
         T.due("38 999", x.chorus(0, 999, 1), 0);
+        T.due("38 by 1", x.chorus(3, 1, 1), 3);
         int[][] wrong = {{-1, 1, 0}, {4, 1, 1}, {0, 0, 0}, {0, 0, 1}, {0, 1000, 1}, {0, -1, 0}, {0, 1, 2}, {0, 1, -1}};
         for (int[] w : wrong) {
             T.due("38 chorus " + w[0] + " " + w[1] + " " + w[2], x.chorus(w[0], w[1], w[2]), NONE);

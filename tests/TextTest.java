@@ -9,6 +9,7 @@ public final class TextTest {
         tape();
         hours();
         faultsOfHours();
+        fullTape();
         laws();
         faultsOfLaws();
         openBrackets();
@@ -139,6 +140,27 @@ public final class TextTest {
         T.due("13 its place", x.fault(1), 4);
     }
 
+    private static void fullTape() {
+        UnbornBells x = withBells(1);
+        fault(x, 0, ";".repeat(400), 1, 0);
+        fault(x, 1, "#".repeat(400), 1, 0);
+        fault(x, 1, "loud 5" + ";".repeat(394), 1, 7);
+        fault(x, 1, "loud " + "1".repeat(395), 1, 5);
+        fault(x, 1, "a".repeat(400), 1, 0);
+        fault(x, 1, "loud " + "1+".repeat(197) + "1", 1, 400);
+        fault(x, 1, "loud 1 when " + "1<2or ".repeat(64) + "1<2 ", 1, 400);
+        fault(x, 1, " ".repeat(396) + "loud", 1, 400);
+        well(x, 1, " ".repeat(400), 0);
+        well(x, 1, "loud " + "1+".repeat(196) + "1 ;", 1);
+        T.due("15 a long sum", x.loud(0, 0, 0), 197);
+        well(x, 1, "loud " + "1*".repeat(196) + "7 ;", 1);
+        T.due("15 a long product", x.loud(0, 0, 0), 7);
+        well(x, 1, "loud 1 when " + "1>2or ".repeat(64) + "1<2;", 1);
+        T.due("15 a long choice", x.loud(0, 0, 0), 1);
+        well(x, 1, "loud 1 when " + "1<2and ".repeat(53) + "1>2;loud 2;", 2);
+        T.due("15 a long claim", x.loud(0, 0, 0), 2);
+    }
+
     private static void laws() {
         UnbornBells x = withBells(1);
         well(x, 1, "", 0);
@@ -191,6 +213,18 @@ public final class TextTest {
         fault(x, 1, "loud 5 when 1 = = 2;", 1, 16);
         fault(x, 1, "loud 5 when 6 / 0 = 2;", 2, 16);
         fault(x, 1, "loud 5 when 1 < 2", 1, 17);
+        fault(x, 1, "loud 5 when 1 < 2 / 0;", 2, 20);
+        fault(x, 1, "loud 5 when 1 < 2 or 1 = 1 / 0 and 1 = 1;", 2, 29);
+        fault(x, 1, "loudA 5;", 1, 0);
+        fault(x, 1, "loudZ 5;", 1, 0);
+        fault(x, 1, "louda 5;", 1, 0);
+        fault(x, 1, "loudz 5;", 1, 0);
+        fault(x, 1, "loud@5;", 1, 4);
+        fault(x, 1, "loud[5;", 1, 4);
+        fault(x, 1, "loud`5;", 1, 4);
+        fault(x, 1, "loud{5;", 1, 4);
+        fault(x, 1, "lou d 5;", 1, 0);
+        fault(x, 1, "loud 5:", 1, 6);
         fault(x, 1, "loud 5; loud 6 when 1 < 2; lod 7;", 1, 27);
         fault(x, 2, "loud 5;", 1, 0);
         fault(x, 2, "come far;", 1, 5);
@@ -292,6 +326,8 @@ public final class TextTest {
         loud("loud 3 - 4;", 0);
         loud("loud weight - far * 2 + hour / 2;", 16);
         loud("loud 100 - 7 / 2;", 97);
+        loud("loud 7 / 1;", 7);
+        loud("loud 9999 / 9999;", 1);
         // 9999 * 9999 * 22 wraps to -2095407274; a seventh of it is -299343896.28..
         loud("loud 9999 * 9999 * 22 / 7 + 2993 * 1000 * 100 + 43 * 1000 + 900;", 4);
         loud("loud 9999 * 9999 * 9999 * 9999 / 9999 / 9999 / 100;", wrapped() < 0 ? 0 : Math.min(999, wrapped()));
@@ -322,6 +358,11 @@ public final class TextTest {
         when("1 = 1 and 1 = 2 or 1 = 2", false);
         when("not 1 = 2 and 1 = 2", false);
         when("not (1 = 2 and 1 = 2)", true);
+        when("not 1 = 1", false);
+        when("not 1 = 2", true);
+        when("not not 1 = 2", false);
+        when("not 1 < 2 or 1 = 2", false);
+        when("1 = 1 and not 1 = 1", false);
         when("not not 1 = 1", true);
         when("not 1 = 1 or 1 = 1", true);
         when("1 = 2 or not 1 = 2", true);

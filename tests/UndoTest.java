@@ -6,6 +6,7 @@ public final class UndoTest {
     public static void main(String[] args) {
         dayByDay();
         eachKind();
+        manyBellsAndSwaps();
         sixAreKept();
         lawsStay();
         whatForgets();
@@ -20,6 +21,7 @@ public final class UndoTest {
         x.bell(0, 0, 50, 40);
         x.bell(0, 12, 60, 30);
         x.set(4, 1, 1);
+        x.set(1, 0, 4);
         x.set(2, 0, 1000);
         Checks.tell(x, 0, "ring 0 at 1 for 2; ring 1 at 1 for 1;");
         Checks.tell(x, 2, "come 1000 when day = 2 and pitch = 0; come 0; slack 5;");
@@ -114,6 +116,48 @@ public final class UndoTest {
         T.yes("6 one that hangs", x.melt(0));
         T.yes("43", x.undo());
         T.due("43 it hangs again", x.of(0, 6), 1);
+    }
+
+    private static void manyBellsAndSwaps() {
+        UnbornBells x = new UnbornBells();
+        StringBuilder hours = new StringBuilder();
+        for (int i = 0; i < 10; i++) {
+            x.bell(0, 4 * i, 50 + i, 90 - i);
+            x.set(4, i, 1);
+            hours.append("ring ").append(i).append(" at ").append(i).append(" for 1;");
+        }
+        x.set(0, 0, 0);
+        Checks.tell(x, 0, hours.toString());
+        Checks.tell(x, 2, "come 1000 when pitch > 3 and pitch < 36; come 0; slack 3;");
+        String start = all(x);
+        T.due("9 sixteen", x.days(1), 16);
+        T.yes("43", x.undo());
+        same("43 a day of all", all(x), start);
+        Checks.tell(x, 2, "come 1000; slack 3;");
+        start = all(x);
+        T.due("9 twenty", x.days(1), 20);
+        x.muffle(9, true);
+        x.melt(8);
+        x.melt(9);
+        String melted = all(x);
+        x.swap(0, 19);
+        String swapped = all(x);
+        T.due("8 swapped", x.child(0, 1), 9);
+        x.swap(19, 1);
+        T.yes("43", x.undo());
+        same("43 a swap", all(x), swapped);
+        T.yes("43", x.undo());
+        same("43 another", all(x), melted);
+        T.due("43 back", x.child(0, 1), 0);
+        T.due("43 back", x.child(19, 1), 9);
+        T.yes("43", x.undo());
+        T.due("43 it hangs", x.of(9, 6), 1);
+        T.due("43 it is melted", x.of(8, 6), 2);
+        T.yes("43", x.undo());
+        T.yes("43", x.undo());
+        T.due("43 not muffled", x.of(9, 5), 0);
+        T.yes("43", x.undo());
+        same("43 the start", all(x), start);
     }
 
     private static void sixAreKept() {

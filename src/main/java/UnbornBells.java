@@ -1712,21 +1712,17 @@ public final class UnbornBells {
             return parish.children.lines - Integer.bitCount(wrongChildren());
         }
 
-        /** Each swap sets a child right for good, so there are no more than children. */
         int swapsToRight() {
             rememberCame();
             int swaps = 0;
-            int child = 0;
-            while (swaps < MOST_CHILDREN && child < parish.children.lines) {
+            // A swap gives the wrong ones no CAME that none of them had: it never opens a way for a lesser child.
+            for (int child = 0; child < parish.children.lines; child++) {
                 int partner = isWrong(child) ? partnerOf(child) : NONE;
-                if (partner == NONE) {
-                    child++;
-                } else {
+                if (partner != NONE) {
                     int own = came[partner];
                     came[partner] = came[child];
                     came[child] = own;
                     swaps++;
-                    child = 0;
                 }
             }
             return swaps;
