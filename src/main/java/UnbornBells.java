@@ -1286,23 +1286,25 @@ public final class UnbornBells {
             return well;
         }
 
-        private boolean readClaim(int open) {
-            if (kind != NOT && kind != '(') {
-                return readComparison();
+        private boolean readClaim(int openAhead) {
+            int open = openAhead;
+            while (kind == NOT && open < MOST_OPEN) {
+                open++;
+                step();
             }
-            if (open >= MOST_OPEN) {
+            if ((kind == NOT || kind == '(') && open >= MOST_OPEN) {
                 return refuse(TOO_MANY);
             }
-            boolean isNot = kind == NOT;
+            boolean well = kind == '(' ? readBracket(open + 1) : readComparison();
+            for (int i = openAhead; i < open; i++) {
+                emit(NOT, 0);
+            }
+            return well;
+        }
+
+        private boolean readBracket(int open) {
             step();
-            if (!isNot) {
-                return readChoice(open + 1) && takes(')');
-            }
-            if (!readClaim(open + 1)) {
-                return false;
-            }
-            emit(NOT, 0);
-            return true;
+            return readChoice(open) && takes(')');
         }
 
         private boolean readComparison() {
