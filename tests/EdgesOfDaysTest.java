@@ -34,7 +34,9 @@ public final class EdgesOfDaysTest {
         imageKeepsAll();
         lesserHour();
         leastHarm();
+        firstOfThePeals();
         rightAsLongAs();
+        rightWithWhom();
         thoughtLeavesAll();
         T.close();
     }
@@ -537,6 +539,7 @@ public final class EdgesOfDaysTest {
         UnbornBells y = Parishes.lived();
         y.image(true);
         y.image(false);
+        T.yes("4 all as it was ahead of it", Parishes.seen(x).equals(Parishes.seen(Parishes.lived())));
         T.yes("4 all as it was taken", Parishes.whole(x).equals(Parishes.whole(y)));
         x = Parishes.withChildren(10, 10);
         y = Parishes.withChildren(10, 10);
@@ -616,6 +619,50 @@ public final class EdgesOfDaysTest {
         T.due("4 one is right", x.right(2), 1);
         // The right one with that CAME swaps with none.
         T.due("4 it came there", x.child(2, 1), 2);
+    }
+
+    /** «of a BELL its HOUR», of those that are RUNG; «the first (the lesser BELL first)» */
+    private static void firstOfThePeals() {
+        // 0 can follow 2 and 3 alone, 1 only 3, 2 only 0, 3 only 0 and 1: from 0 on no order ends.
+        UnbornBells x = Parishes.ofPitches(0, 1, 2, 3);
+        T.due("4 two orders", x.peals(15, 0), 2);
+        int[] dues = {1, 3, 0, 2};
+        for (int i = 0; i < 4; i++) {
+            T.due("4 bell " + i + " of the first", x.peals(15, 10 + i), dues[i]);
+        }
+        x.melt(0);
+        T.due("4 the others by hours", x.rows(10, 0), 2);
+        for (int i = 0; i < 4; i++) {
+            T.due("4 the hour of " + i, x.rows(10, 10 + i), new int[] {NONE, 0, 1, 0}[i]);
+        }
+        x.melt(1);
+        T.due("4 two are left", x.rows(10, 13), 1);
+    }
+
+    /** «the least such a, for it the b whose OWN is CAME of a, if there is one, else the least b» */
+    private static void rightWithWhom() {
+        UnbornBells x = Parishes.withChildren(3, 1);
+        // OWN 0 0 1 2. CAME 2 1 0 0: 0 goes with 3 (own 2), not with the lesser 2; then 1 with 2.
+        Parishes.bring(x, 2, 1, 0, 0);
+        T.due("4 two swaps", x.right(1), 2);
+        x = Parishes.withChildren(4, 1);
+        // OWN 0 0 1 2 3. CAME 3 1 0 0 2: of 2 and 3, neither of which is of bell 3, child 0 goes with 2; then three more.
+        Parishes.bring(x, 3, 1, 0, 0, 2);
+        T.due("4 from the least a, with the least b: four swaps", x.right(1), 4);
+        T.due("4 all are right then", x.right(2), 5);
+        // CAME 3 1 2 0 0: 0 goes with 4 (own 3), not with 3; then 1, 2, 3 in a ring.
+        Parishes.bring(x, 3, 1, 2, 0, 0);
+        T.due("4 three swaps", x.right(1), 3);
+        // OWN 0 1 2, CAME 1 2 2: 0 finds none, 1 goes with 0.
+        x = Parishes.ofPitches(0, 5, 12);
+        Checks.tell(x, 0, "ring 0 at 1 for 1; ring 1 at 2 for 1; ring 2 at 1 for 1;");
+        Checks.tell(x, 1, "loud pitch;");
+        Checks.tell(x, 2, "come 1000;");
+        x.days(1);
+        x.swap(0, 1);
+        T.due("4 two are wrong", x.right(0), 3);
+        T.due("4 the first that finds one", x.right(1), 1);
+        T.due("4 one stays wrong", x.right(2), 2);
     }
 
     /** «IN THOUGHT (nothing of it stays; no DRAWS)» */

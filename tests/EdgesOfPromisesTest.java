@@ -771,6 +771,10 @@ public final class EdgesOfPromisesTest {
         x = Parishes.withChildren(10, 0);
         Checks.tell(x, 0, "ring 0 at 3 for 2; ring 1 at 3 for 2; ring 2 at 3 for 2; ring 3 at 3 for 2; ring 4 at 4 for 1;");
         T.due("27 five and five", x.ask(9), 4);
+        Checks.tell(x, 0, "");
+        T.due("27 nothing tells ten apart", x.ask(9), 0);
+        Checks.tell(x, 0, "ring 7 at 22 for 2;");
+        T.due("27 one of ten", x.ask(9), 22);
     }
 
     /** 28: STOP; NONE if in none, or one can't be. */
@@ -959,6 +963,11 @@ public final class EdgesOfPromisesTest {
         T.due("34 the last two", x.quarrels(2), 9);
         Checks.tell(x, 0, "ring 8 at 23 for 1; ring 9 at 0 for 1;");
         T.due("34 never in one hour", x.quarrels(0), 0);
+        x = Parishes.ofPitches(10, 12);
+        Checks.tell(x, 0, "ring 0 at 0 for 24; ring 1 at 0 for 24;");
+        T.due("34 as far apart as NEAR", x.quarrels(0), 0);
+        x.set(5, 1, 11);
+        T.due("34 less than that", x.quarrels(0), 1);
         x = new UnbornBells();
         x.bell(0, 10, 41, 0);
         x.bell(0, 10, 20, 0);
@@ -1046,6 +1055,10 @@ public final class EdgesOfPromisesTest {
         T.due("37 three below the other", x.raised(1), 2);
         x.set(0, 0, 2);
         T.due("37 two above the other", x.raised(1), 7);
+        x.set(5, 1, 47);
+        T.due("37 two below the top", x.raised(1), 5);
+        x.melt(1);
+        T.due("37 a melted one is not in the way", x.raised(1), 7);
     }
 
     /** 38: CHORUS what 0 the HOUR (NONE: none is ever HEARD), 1 how many. NONE if one can't be, or another what. */

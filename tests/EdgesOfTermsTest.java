@@ -320,6 +320,7 @@ public final class EdgesOfTermsTest {
         loud("loud 9999*9999*22/9999+209*1000+562;", 1);
         loud("loud 1 when 9999*9999*22/9999/9999/9999=0;loud 2;", 1);
         loud("loud 9999/9999;", 1);
+        loud("loud 3+8/1;", 11);
         loud("loud 9998/9999;", 0);
     }
 
@@ -332,6 +333,10 @@ public final class EdgesOfTermsTest {
         fault(x, 0, "ring 0 at 0 for 1 ring", 1, 18);
         fault(x, 1, "loud 1/0+;", 2, 7);
         fault(x, 1, "loud 1+;loud 1/0;", 1, 7);
+        fault(x, 1, "loud + 1;", 1, 5);
+        fault(x, 1, "loud 1 when 1 and 1<2;", 1, 14);
+        fault(x, 1, "loud 1 when or 1<2;", 1, 12);
+        fault(x, 1, "loud 1 when 1<2/0 and 1<2;", 2, 16);
         fault(x, 1, "loud 1 when (((((((((1/0", 3, 20);
         fault(x, 1, "loud 1 when ((((((((1/0", 2, 22);
         fault(x, 1, "loud 1;".repeat(15) + "loud 1/0;loud 1;", 2, 112);
@@ -467,6 +472,10 @@ public final class EdgesOfTermsTest {
         when("2>3", false);
         when("0-1<0", true);
         when("0>0-1", true);
+        when("1<2 and 1=1", true);
+        when("2>1 and 1=1", true);
+        when("not 1<2", false);
+        when("not 2>1", false);
         when("1+2=4-1", true);
         when("2*3/6=1", true);
     }

@@ -86,8 +86,7 @@ final class Parishes {
 
     /** All that can be seen of a parish, then what the tape holds, what is undone, and the image: it ends with that. */
     static String whole(UnbornBells x) {
-        StringBuilder s = new StringBuilder();
-        see(s, x);
+        StringBuilder s = new StringBuilder(seen(x));
         s.append(" fault ").append(x.fault(0)).append(' ').append(x.fault(1));
         s.append(" tape ");
         for (int n = 20; n >= 0 && !x.end(n); n--) {
@@ -104,9 +103,12 @@ final class Parishes {
         return s.toString();
     }
 
-    private static void see(StringBuilder s, UnbornBells x) {
+    /** All that an image keeps. */
+    static String seen(UnbornBells x) {
+        StringBuilder s = new StringBuilder();
         for (int what = 0; what < 36; what++) {
-            s.append(' ').append(x.look(what));
+            // 12 is what can be undone.
+            s.append(' ').append(what == 12 ? 0 : x.look(what));
         }
         for (int bell = 0; bell < x.look(0); bell++) {
             for (int what = 0; what < 12; what++) {
@@ -125,6 +127,7 @@ final class Parishes {
                 s.append(' ').append(x.book(i, what));
             }
         }
+        return s.toString();
     }
 
     /** What a call answers on a parish that has lived; it may change nothing of it, nor what can be undone. */
