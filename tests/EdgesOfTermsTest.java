@@ -320,7 +320,7 @@ public final class EdgesOfTermsTest {
         loud("loud 9999*9999*22/9999+209*1000+562;", 1);
         loud("loud 1 when 9999*9999*22/9999/9999/9999=0;loud 2;", 1);
         loud("loud 9999/9999;", 1);
-        loud("loud 3+8/1;", 11);
+        loud("loud 3+7/1;", 10);
         loud("loud 9998/9999;", 0);
     }
 
