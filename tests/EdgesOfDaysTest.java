@@ -32,6 +32,7 @@ public final class EdgesOfDaysTest {
         lawsAreNotUndone();
         imageKeepsAllBut();
         imageKeepsAll();
+        imageKeepsFullBook();
         lesserHour();
         leastHarm();
         firstOfThePeals();
@@ -359,26 +360,30 @@ public final class EdgesOfDaysTest {
         goesBack("a swap", x -> x.swap(0, 1));
         goesBack("a swap of the last", x -> x.swap(2, 1));
         // A day on which all come: ten bells, twenty children, and all that they change.
-        UnbornBells x = Parishes.withChildren(10, 10);
-        T.yes("4 undone", x.undo());
-        UnbornBells y = Parishes.withChildren(10, 10);
-        y.undo();
-        T.due("4 none has come", x.look(1), 0);
-        T.due("4 all come again", x.days(1), 20);
-        y.days(1);
+        UnbornBells x = comeAgain();
         for (int i = 9; i >= 0; i--) {
             T.due("4 OWN again", x.child(2 * i + 1, 0), i);
             T.yes("4 one of them is melted", x.melt(i));
             T.yes("4 undone", x.undo());
             T.due("4 it hangs", x.of(i, 6), 1);
         }
+        T.yes("4 all as it was", Parishes.whole(x).equals(Parishes.whole(comeAgain())));
+        x = comeAgain();
         for (int i = 0; i < 19; i++) {
             x.swap(i, i + 1);
             T.yes("4 undone", x.undo());
             T.due("4 CAME as it was", x.child(i, 1), i / 2);
             T.due("4 CAME as it was", x.child(i + 1, 1), (i + 1) / 2);
         }
-        T.yes("4 all as it was", Parishes.whole(x).equals(Parishes.whole(y)));
+        T.yes("4 all as it was", Parishes.whole(x).equals(Parishes.whole(comeAgain())));
+    }
+
+    private static UnbornBells comeAgain() {
+        UnbornBells x = Parishes.withChildren(10, 10);
+        T.yes("4 undone", x.undo());
+        T.due("4 none has come", x.look(1), 0);
+        T.due("4 all come again", x.days(1), 20);
+        return x;
     }
 
     /** «the latest DAY, MELTING, MUFFLING, SWAP not undone yet goes back (STATE, THE BOOK, too)» */
@@ -541,22 +546,37 @@ public final class EdgesOfDaysTest {
         y.image(false);
         T.yes("4 all as it was ahead of it", Parishes.seen(x).equals(Parishes.seen(Parishes.lived())));
         T.yes("4 all as it was taken", Parishes.whole(x).equals(Parishes.whole(y)));
-        x = Parishes.withChildren(10, 10);
-        y = Parishes.withChildren(10, 10);
+    }
+
+    /** Twenty children, 118 lines in the book, the image; a day and three more done after it, or nothing; gone back. */
+    private static UnbornBells backToFullBook(boolean done) {
+        UnbornBells x = Parishes.withChildren(10, 10);
         for (int i = 0; i < 98; i++) {
             x.swap(i % 19, 19);
-            y.swap(i % 19, 19);
         }
         x.image(true);
-        y.image(true);
-        x.days(1);
-        x.swap(0, 19);
-        x.swap(3, 4);
-        x.melt(9);
+        if (done) {
+            x.days(1);
+            x.swap(0, 19);
+            x.swap(3, 4);
+            x.melt(9);
+        }
         x.image(false);
-        y.image(false);
-        T.due("4 the lines", x.look(6), 118);
-        T.yes("4 a full parish as it was taken", Parishes.whole(x).equals(Parishes.whole(y)));
+        return x;
+    }
+
+    private static void imageKeepsFullBook() {
+        for (int from = 0; from < 118; from += 59) {
+            UnbornBells x = backToFullBook(true);
+            UnbornBells y = backToFullBook(false);
+            T.due("4 the lines", x.look(6), 118);
+            for (int i = from; i < from + 59; i++) {
+                for (int what = 0; what < 4; what++) {
+                    T.due("4 line " + i, x.book(i, what), y.book(i, what));
+                }
+            }
+        }
+        T.yes("4 a full parish as it was taken", Parishes.seen(backToFullBook(true)).equals(Parishes.seen(backToFullBook(false))));
     }
 
     /** «of several ways with so many the first (BELL by BELL, the lesser HOUR)» */

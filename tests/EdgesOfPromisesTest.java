@@ -711,7 +711,6 @@ public final class EdgesOfPromisesTest {
         x.days(1);
         T.due("25 none was, none is", x.turn(NONE, 0, 0), 0);
         T.due("25 it is told all the same", x.look(12), 0);
-        T.due("25 hour and tower are not asked", x.turn(NONE, 24, -1), 0);
         T.due("25 the first again", x.turn(0, 0, 0), 1);
         T.due("25 without children", new UnbornBells().turn(0, 0, 0), NONE);
     }

@@ -103,26 +103,29 @@ final class Parishes {
         return s.toString();
     }
 
-    /** All that an image keeps. */
+    /** All that an image keeps, of THE BOOK the last ten lines. */
     static String seen(UnbornBells x) {
         StringBuilder s = new StringBuilder();
         for (int what = 0; what < 36; what++) {
             // 12 is what can be undone.
             s.append(' ').append(what == 12 ? 0 : x.look(what));
         }
-        for (int bell = 0; bell < x.look(0); bell++) {
+        int bells = x.look(0);
+        for (int bell = 0; bell < bells; bell++) {
             for (int what = 0; what < 12; what++) {
                 s.append(' ').append(x.of(bell, what));
             }
             s.append(" loud ").append(x.loud(bell, 1, 2)).append(' ').append(x.loud(bell, 2, 20));
         }
-        for (int i = 0; i < x.look(1); i++) {
+        int children = x.look(1);
+        for (int i = 0; i < children; i++) {
             for (int what = 0; what < 3; what++) {
                 s.append(' ').append(x.child(i, what));
             }
             s.append(" fits ").append(x.fits(i));
         }
-        for (int i = 0; i < x.look(6); i++) {
+        int lines = x.look(6);
+        for (int i = Math.max(0, lines - 10); i < lines; i++) {
             for (int what = 0; what < 4; what++) {
                 s.append(' ').append(x.book(i, what));
             }

@@ -1,5 +1,3 @@
-import java.util.ArrayList;
-import java.util.List;
 import java.util.Random;
 
 /** Runs of calls drawn by fixed seeds: the program and the plain model answer alike. */
@@ -20,7 +18,7 @@ public final class PlainTest {
     }
 
     public static void main(String[] args) {
-        int runs = args.length > 1 ? Integer.parseInt(args[1]) : 400;
+        int runs = args.length > 1 ? Integer.parseInt(args[1]) : 800;
         for (int seed = 0; seed < runs; seed++) {
             new PlainTest(seed).run();
         }
@@ -60,13 +58,15 @@ public final class PlainTest {
 
     private void run() {
         start();
-        int most = 300 + random.nextInt(200);
+        int most = 300 + random.nextInt(120);
         int guard = 0;
         while (calls < most && guard < 2000) {
             guard++;
             if (random.nextInt(100) < 25) act(); else ask();
-            if (random.nextInt(8) == 0) lookAll();
+            if (random.nextInt(8) == 0) look(random.nextInt(4));
         }
+        // No look takes more than 40 calls, and an object is asked 512 times at most.
+        for (int kind = 0; calls + 40 <= 512; kind++) look(kind % 4);
     }
 
     private void start() {
@@ -112,7 +112,7 @@ public final class PlainTest {
         if (random.nextInt(4) > 0) return text.length() > 400 ? text.substring(0, 400) : text;
         StringBuilder s = new StringBuilder(text);
         int times = 1 + random.nextInt(2);
-        String signs = "0 19az;+-*/()<=>.\nX#\t";
+        String signs = "0 19az;+-*/()<=>.\n?#\t";
         String[] words = {" not ", " ( ", " ) ", " and ", " or ", " when ", " 0 ", " 24 ", " 12345 ", " ring ", " loud ", " come ", " slack ", " clear ", " hour ", " / ", ";"};
         for (int i = 0; i < times; i++) {
             int at = random.nextInt(s.length() + 1);
@@ -242,8 +242,10 @@ public final class PlainTest {
                 break;
             }
             case 18: {
-                int a = random.nextInt(12) == 0 ? -1 : child(), hour = about(0, 23), tower = random.nextInt(3) > 0 && plain.isBell(bell) ? plain.b(bell).tower : about(0, 3);
-                due("turn", bells.turn(a, hour, tower), plain.turn(a, hour, tower));
+                int a = child(), hour = about(0, 23), tower = random.nextInt(3) > 0 && plain.isBell(bell) ? plain.b(bell).tower : about(0, 3);
+                // Whether hour and tower are asked when none is to be a TURN, the document leaves open.
+                if (a == -1 || random.nextInt(12) == 0) due("no turns", bells.turn(-1, 0, 0), plain.turn(-1, 0, 0));
+                else due("turn", bells.turn(a, hour, tower), plain.turn(a, hour, tower));
                 break;
             }
             default:
@@ -260,22 +262,26 @@ public final class PlainTest {
         }
     }
 
-    private void lookAll() {
-        List<Integer> whats = new ArrayList<>();
-        for (int i = -1; i <= 37; i++) whats.add(i);
-        for (int what : whats) {
-            if (bells.look(what) != plain.look(what)) due("look " + what, bells.look(what), plain.look(what));
+    /** All that look() tells, or all of two bells, of some children, of the last lines of the book. */
+    private void look(int kind) {
+        switch (kind) {
+            case 0: for (int what = -1; what <= 37; what++) due("look " + what, bells.look(what), plain.look(what)); break;
+            case 1: lookAtBell(bell()); lookAtBell(bell()); break;
+            case 2: {
+                int first = Math.max(0, plain.w.children.size() - 8 - upTo(12));
+                for (int i = first; i < first + 9; i++)
+                    for (int what = 0; what <= 3; what++) due("child " + i + " " + what, bells.child(i, what), plain.child(i, what));
+                break;
+            }
+            default:
+                for (int i = Math.max(0, plain.w.book.size() - 6); i <= plain.w.book.size(); i++)
+                    for (int what = 0; what <= 4; what++) due("book " + i + " " + what, bells.book(i, what), plain.book(i, what));
+                break;
         }
-        for (int i = 0; i < plain.w.bells.size(); i++)
-            for (int what = 0; what <= 12; what++)
-                if (bells.of(i, what) != plain.of(i, what)) due("of " + i + " " + what, bells.of(i, what), plain.of(i, what));
-        for (int i = 0; i <= plain.w.children.size(); i++)
-            for (int what = 0; what <= 3; what++)
-                if (bells.child(i, what) != plain.child(i, what)) due("child " + i + " " + what, bells.child(i, what), plain.child(i, what));
-        for (int i = 0; i <= plain.w.book.size(); i++)
-            for (int what = 0; what <= 4; what++)
-                if (bells.book(i, what) != plain.book(i, what)) due("book " + i + " " + what, bells.book(i, what), plain.book(i, what));
-        calls++;
+    }
+
+    private void lookAtBell(int bell) {
+        for (int what = 0; what <= 12; what++) due("of " + bell + " " + what, bells.of(bell, what), plain.of(bell, what));
     }
 
     private void ask() {

